@@ -1011,6 +1011,8 @@ public final class PieceFiles {
     boolean quoted;
     int keyBegin;
     int keySize;
+    int meaning;
+    int width;
     private int kindNow;
     private int place;
 
@@ -1040,11 +1042,8 @@ public final class PieceFiles {
           case MARKUP:
             tryMarkup();
             break;
-          case QUOTES:
-            tryQuotes();
-            break;
           default:
-            tryWhole();
+            tryQuotes();
             break;
         }
         if (begin < end) {
@@ -1052,13 +1051,6 @@ public final class PieceFiles {
         }
       }
       return false;
-    }
-
-    /** Without an inner kind a text is one piece: so the two cases are cut by the same code. */
-    private void tryWhole() {
-      begin = place;
-      end = row.size();
-      place = end;
     }
 
     private void tryLine() {
@@ -1111,43 +1103,40 @@ public final class PieceFiles {
       }
     }
 
-    /** How many bytes of the piece at a place mean one. */
-    int widthAt(int i) {
-      int sign = row.get(i);
-      int following = i + 1 < end ? row.get(i + 1) : NONE;
-      switch (kindNow) {
-        case LINES:
-          return sign == BACK && (isCommonEscape(following) || following == BLANK) ? 2 : 1;
-        case TABLE:
-          return quoted && sign == QUOTE && following == QUOTE ? 2 : 1;
-        case MARKUP:
-          if (sign == '&' && i + 4 <= end && (row.isText(i, 4, "&lt;") || row.isText(i, 4, "&gt;"))) {
-            return 4;
-          }
-          return sign == '&' && i + 5 <= end && row.isText(i, 5, "&amp;") ? 5 : 1;
-        case QUOTES:
-          return sign == BACK && (isCommonEscape(following) || following == QUOTE) ? 2 : 1;
-        default:
-          return 1;
-      }
-    }
-
-    private static boolean isCommonEscape(int sign) {
-      return sign == 'n' || sign == 't' || sign == BACK;
-    }
-
-    int meaningAt(int i, int width) {
-      int following = row.get(i + 1);
-      if (width == 1) {
-        return row.get(i);
-      }
+    /** What the piece means at a place, and how many of its bytes mean it. */
+    void read(int i) {
+      meaning = row.get(i);
+      width = 1;
       if (kindNow == MARKUP) {
-        return following == 'l' ? '<' : following == 'g' ? '>' : '&';
+        if (meaning == '&') {
+          readMarkup(i);
+        }
+      } else if (kindNow == TABLE) {
+        // All " of a quoted cell's piece stand two by two, or they would have closed it.
+        width = quoted && meaning == QUOTE ? 2 : 1;
+      } else if (meaning == BACK && i + 1 < end) {
+        readBack(row.get(i + 1));
       }
-      if (kindNow == TABLE) {
-        return QUOTE;
+    }
+
+    private void readMarkup(int i) {
+      int first = row.get(i + 1);
+      if (first == 'a') {
+        if (i + 4 < end && row.get(i + 2) == 'm' && row.get(i + 3) == 'p' && row.get(i + 4) == ';') {
+          width = 5;
+        }
+      } else if ((first == 'l' || first == 'g') && i + 3 < end && row.get(i + 2) == 't' && row.get(i + 3) == ';') {
+        meaning = first == 'l' ? '<' : '>';
+        width = 4;
       }
-      return following == 'n' ? BREAK : following == 't' ? TAB : following;
+    }
+
+    private void readBack(int sign) {
+      int own = kindNow == LINES ? BLANK : QUOTE;
+      if (sign == 'n' || sign == 't' || sign == BACK || sign == own) {
+        meaning = sign == 'n' ? BREAK : sign == 't' ? TAB : sign;
+        width = 2;
+      }
     }
   }
 
@@ -1180,14 +1169,12 @@ public final class PieceFiles {
     private final Scan within;
     private final Row middle;
     private final Row middleBegins;
-    private final Row middleEnds;
 
     Cut() {
       text = new Row(BUILT_MOST);
       origins = new Row(BUILT_MOST);
       middle = new Row(BUILT_MOST);
       middleBegins = new Row(BUILT_MOST);
-      middleEnds = new Row(BUILT_MOST);
       outer = new Scan();
       within = new Scan();
       pieces = new Piece[PIECES_MOST];
@@ -1211,60 +1198,62 @@ public final class PieceFiles {
       outer.start(row, rules.kind);
       for (int turn = 0; turn <= BUILT_MOST && many < pieces.length && outer.next(); turn++) {
         if (rules.kind != LINES || !rules.isLocked(outer)) {
-          readMiddle();
-          takePieces(rules);
+          if (rules.inner == NONE) {
+            int from = text.size();
+            readOuter(text, origins);
+            settle(rules, from, outer.begin, outer.end);
+          } else {
+            takeWithin(rules);
+          }
         }
       }
     }
 
-    /** What a piece of the kind means, with the places that each byte of it comes from. */
-    private void readMiddle() {
-      middle.cutTo(0);
-      middleBegins.cutTo(0);
-      middleEnds.cutTo(0);
-      int width = 1;
-      for (int i = outer.begin; i < outer.end; i += Math.max(1, width)) {
-        width = outer.widthAt(i);
-        middle.add(outer.meaningAt(i, width));
-        middleBegins.add(i);
-        middleEnds.add(i + width);
+    private void readOuter(Row meanings, Row begins) {
+      for (int i = outer.begin; i < outer.end; i += Math.max(1, outer.width)) {
+        outer.read(i);
+        meanings.add(outer.meaning);
+        begins.add(i);
       }
     }
 
-    private void takePieces(State rules) {
+    private void takeWithin(State rules) {
+      middle.cutTo(0);
+      middleBegins.cutTo(0);
+      readOuter(middle, middleBegins);
       within.start(middle, rules.inner);
       for (int turn = 0; turn <= BUILT_MOST && many < pieces.length && within.next(); turn++) {
         int from = text.size();
-        int width = 1;
-        for (int i = within.begin; i < within.end; i += Math.max(1, width)) {
-          width = within.widthAt(i);
-          text.add(within.meaningAt(i, width));
+        for (int i = within.begin; i < within.end; i += Math.max(1, within.width)) {
+          within.read(i);
+          text.add(within.meaning);
           origins.add(middleBegins.get(i));
         }
-        if (text.size() - from < rules.least || rules.letters && !text.hasLetter(from)) {
-          text.cutTo(from);
-          origins.cutTo(from);
-        } else {
-          addPiece(from);
-        }
+        // What means a byte ends where what means the next one begins.
+        int end = within.end < middle.size() ? middleBegins.get(within.end) : outer.end;
+        settle(rules, from, middleBegins.get(within.begin), end);
       }
     }
 
-    private void addPiece(int from) {
+    /** The text read last, from a place on, becomes a piece, or goes again if the rules say so. */
+    private void settle(State rules, int from, int begin, int end) {
       Piece one = many >= 0 && many < pieces.length ? pieces[many] : null;
-      if (one == null) {
+      int size = text.size() - from;
+      if (one == null || size < rules.least || rules.letters && !text.hasLetter(from)) {
+        text.cutTo(from);
+        origins.cutTo(from);
         return;
       }
       many++;
-      one.begin = middleBegins.get(within.begin);
-      one.end = middleEnds.get(within.end - 1);
+      one.begin = begin;
+      one.end = end;
       one.textFrom = from;
-      one.textSize = text.size() - from;
+      one.textSize = size;
       one.keyBegin = outer.keyBegin;
       one.keySize = outer.keySize;
       one.quoted = outer.quoted;
-      one.quotedWithin = within.quoted;
-      one.beginsValue = within.begin == 0;
+      one.quotedWithin = rules.inner == TABLE && within.quoted;
+      one.beginsValue = begin == outer.begin;
     }
 
     int textByte(Piece one, int i) {

@@ -3,7 +3,7 @@ import java.util.function.LongSupplier;
 
 /** Long runs of calls, drawn by fixed seeds, are answered as the plain model of the document answers them. */
 public final class ModelTest {
-  private static final int RUNS = 1500;
+  private static final int RUNS = 400;
   private static final int CALLS = 120;
   private static final String[][] BITS = {
     {"a=", "key = ", " b=x", "=", "#", "\n", "\n", "\\n", "\\t", "\\\\", "\\ ", "\\", " ", "lock", "ab=1", "\nlow = "},
@@ -22,10 +22,13 @@ public final class ModelTest {
   private final PieceFiles x = new PieceFiles();
   private final PlainModel m = new PlainModel();
   private final StringBuilder story = new StringBuilder();
+  // Half of the runs stay with one long file and tell it much, so that limits are met.
+  private final boolean calm;
   private boolean wrong = false;
 
   private ModelTest(long seed) {
     random = new Random(seed);
+    calm = seed % 2 == 0;
   }
 
   public static void main(String[] args) {
@@ -34,6 +37,7 @@ public final class ModelTest {
     int failures = 0;
     for (int seed = first; seed < first + runs && failures < 3; seed++) {
       ModelTest test = new ModelTest(seed);
+      test.begin();
       for (int i = 0; i < CALLS && !test.wrong; i++) {
         test.step();
       }
@@ -123,11 +127,45 @@ public final class ModelTest {
     return text.substring(0, Math.min(400, text.length()));
   }
 
+  /** Values that are often alike, in a file that each kind can cut. */
+  private String longFile(int kind) {
+    String[] values = {"ab", "zz", "a b", "Word", "x", "12", bits(1, 9, m.s.inner), bits(1, 70, kind)};
+    String[] ahead = {"k=", ",", "<p>", "\""};
+    String[] behind = {"\n", pick(2) == 0 ? "\n" : "", "</p>", "\", "};
+    StringBuilder text = new StringBuilder();
+    while (text.length() < 330) {
+      boolean quoted = kind == 1 && pick(3) == 0;
+      text.append(ahead[kind]).append(quoted ? "\"" : "").append(values[pick(values.length)]);
+      text.append(quoted ? "\"" : "").append(behind[kind]);
+    }
+    return text.substring(0, Math.min(400, text.length()));
+  }
+
+  private void begin() {
+    if (calm) {
+      int kind = pick(4);
+      int inner = pick(5) - 1;
+      same("kind", () -> x.kind(kind, false), () -> m.kind(kind, false));
+      same("inner", () -> x.kind(inner, true), () -> m.kind(inner, true));
+      tape(longFile(kind));
+      same("file()", x::file, m::file);
+    }
+  }
+
   private void step() {
     int p = number();
     int q = number();
+    if (calm && pick(20) > 0) {
+      change(7 + pick(12), p, q);
+    } else {
+      change(pick(24), p, q);
+    }
+    compare();
+  }
+
+  private void change(int which, int p, int q) {
     int kindBits = pick(3) == 0 ? -1 : pick(2) == 0 || m.s.inner < 0 ? m.s.kind : m.s.inner;
-    switch (pick(24)) {
+    switch (which) {
       case 0:
       case 1:
         tape(bits(0, pick(4) == 0 ? 400 : 60, kindBits));
@@ -215,7 +253,6 @@ public final class ModelTest {
         looks(p, q);
         break;
     }
-    compare();
   }
 
   private void looks(int p, int i) {
