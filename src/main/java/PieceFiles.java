@@ -792,28 +792,27 @@ public final class PieceFiles {
       return size;
     }
 
-    /** Where the " is that closes a quoted cell; two side by side close nothing. */
+    /** Where the " is that closes a quoted cell: the first that is followed by no other one, two by two. */
     int cellQuoteEnd(int begin) {
-      for (int i = begin; i < size; i++) {
-        if (get(i) == QUOTE) {
-          if (get(i + 1) != QUOTE) {
-            return i;
-          }
-          i++;
+      boolean mayClose = false;
+      for (int i = begin; i >= 0 && i < size && i < bytes.length; i++) {
+        if (bytes[i] == QUOTE) {
+          mayClose = !mayClose;
+        } else if (mayClose) {
+          return i - 1;
         }
       }
-      return size;
+      return mayClose ? size - 1 : size;
     }
 
     /** Where the " is that closes quotes; a BACK takes the byte behind it along. */
     int quoteEnd(int begin) {
-      for (int i = begin; i < size; i++) {
-        if (get(i) == QUOTE) {
+      boolean escaped = false;
+      for (int i = begin; i >= 0 && i < size && i < bytes.length; i++) {
+        if (bytes[i] == QUOTE && !escaped) {
           return i;
         }
-        if (get(i) == BACK) {
-          i++;
-        }
+        escaped = bytes[i] == BACK && !escaped;
       }
       return size;
     }
@@ -1203,6 +1202,9 @@ public final class PieceFiles {
             readOuter(text, origins);
             settle(rules, from, outer.begin, outer.end);
           } else {
+            middle.cutTo(0);
+            middleBegins.cutTo(0);
+            readOuter(middle, middleBegins);
             takeWithin(rules);
           }
         }
@@ -1218,9 +1220,6 @@ public final class PieceFiles {
     }
 
     private void takeWithin(State rules) {
-      middle.cutTo(0);
-      middleBegins.cutTo(0);
-      readOuter(middle, middleBegins);
       within.start(middle, rules.inner);
       for (int turn = 0; turn <= BUILT_MOST && many < pieces.length && within.next(); turn++) {
         int from = text.size();
