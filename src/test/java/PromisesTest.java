@@ -169,6 +169,11 @@ public final class PromisesTest {
     b.is("wipe", b.acts("wipe"), 1).is("TOLD", b.x.count(4), 0);
     b.is("14", b.acts(many("any;", 13) + "any"), 14).is("the tape is used up", b.x.end(1), false);
     b.is("cut as it was", b.tell(0, "q"), 14).is("acts", b.acts("plain"), 1).is("nothing told", b.x.count(4), 0);
+    b.file(many("k=v\n", 40));
+    b.tell(39, "q");
+    b.is("the last piece", b.acts("swap 39 00;swap 0 39;spread 39;free 39"), 4).is("told", b.x.count(4), 39);
+    b.file("a=x\nab=x\nc=y,z");
+    b.is("a lock with a z", b.acts("lock az;lock z"), 2).is("unlock", b.acts("unlock"), 1);
     b.is("acts see what acts ahead did", b.acts("swap 0 1;free 0;kind 1;kind 0"), 4);
   }
 
@@ -198,6 +203,12 @@ public final class PromisesTest {
     wrongAt(b, "  turn", 2);
     wrongAt(b, "Kind 1", 0);
     wrongAt(b, "kindx 1", 0);
+    wrongAt(b, "xind 1", 0);
+    wrongAt(b, "kinz 1", 0);
+    wrongAt(b, "kind {", 5);
+    wrongAt(b, "kind 1{", 6);
+    wrongAt(b, "kind /", 5);
+    wrongAt(b, "kind :", 5);
     wrongAt(b, "kind", 4);
     wrongAt(b, "kind  ", 6);
     wrongAt(b, "kind x", 5);
@@ -308,6 +319,7 @@ public final class PromisesTest {
     b.is("lock", b.tape("abc").x.lock(), 5).is("texts", b.texts(), "|2|3|4|5|6").is("lock", b.tape("ab").x.lock(), 3);
     b.tell(0, "z");
     b.throwing("twice", STATE, () -> b.tape("ab").x.lock()).is("why", b.x.why(), 7).is("nothing is cut", b.x.count(4), 1);
+    b.throwing("the first twice", STATE, () -> b.tape("abc").x.lock()).is("why", b.x.why(), 7);
     b.is("third", b.tape("x").x.lock(), 2).is("fourth", b.tape("zzzzzzzz").x.lock(), 2).is("LOCKS", b.x.count(9), 4);
     b.throwing("fifth", STATE, () -> b.tape("y").x.lock()).is("why", b.x.why(), 6);
     b.throwing("full and there already", STATE, () -> b.tape("x").x.lock()).is("why", b.x.why(), 6);
@@ -319,6 +331,11 @@ public final class PromisesTest {
     b.is("unlock", b.x.unlock(), 2).is("LOCKS", b.x.count(9), 0);
     b.tell(0, "z");
     b.is("unlock cuts anew", b.x.unlock() + " " + b.x.count(4), "2 0");
+    b.kinds(0, -1).file("a=1\nb=2\nc=3");
+    b.tape("a").x.lock();
+    b.x.unlock();
+    b.tape("b").x.lock();
+    b.is("b", b.texts(), "|1|3").is("undo", b.x.undo() + b.texts(), "2|1|2|3").is("undo", b.x.undo() + b.texts(), "1|2|3");
   }
 
   // Promise 12
@@ -618,6 +635,10 @@ public final class PromisesTest {
   private static void found() {
     Bench b = new Bench("26 found").file("a=One two\nb=twofold\nc=1TWO2\nd=two");
     b.is("two", b.tape("two").x.found(), 0b1101).is("fold", b.tape("fold").x.found(), 0).is("one", b.tape("one").x.found(), 1);
+    b.is("xwo", b.tape("xwo").x.found(), 0).is("twoo", b.tape("twoo").x.found(), 0).is("tw", b.tape("tw").x.found(), 0);
+    b.tell(3, "aZ-zA@AZ[za{`");
+    b.is("az", b.tape("az").x.found(), 8).is("za", b.tape("za").x.found(), 8).is("words", b.x.piece(3, 6), 4);
+    b.x.free(3);
     b.tell(3, "x");
     b.is("in NOW", b.tape("two").x.found(), 0b101).is("x", b.tape("x").x.found(), 8).is("the tape is used up", b.x.end(1), false);
     for (String wrong : new String[] {"", "Two", "two ", "a1", "abcdefghi"}) {
@@ -665,6 +686,14 @@ public final class PromisesTest {
     b.kinds(3, 1).file("\"a,b\"");
     b.tell(1, "p,q");
     b.is("a \" that is escaped again", b.built(), "\"a,\\\"p,q\\\"\"").is("kept", b.x.kept(1) + " " + b.x.kept(0), "true true");
+    b.kinds(0, 1).file("k=a,b");
+    b.tell(0, "p,q");
+    b.is("a \" as it is", b.built(), "k=\"p,q\",b").is("kept", b.x.kept(0) + " " + b.x.kept(1), "true true");
+    b.kinds(2, 1).file("<p>a,b");
+    b.tell(1, "<,");
+    b.is("a \" in markup", b.built(), "<p>a,\"&lt;,\"").x.rule(0, 0);
+    b.tell(1, "<,");
+    b.is("kept", b.x.kept(0) + " " + b.x.kept(1), "true true");
     b.kinds(1, 1).file("\"a,b\"");
     b.tell(0, "p\"");
     b.is("two \" in a quoted cell", b.built(), "\"\"\"p\"\"\"\"\"\",b\"").is("kept", b.x.kept(0) + " " + b.x.kept(1), "true true");
@@ -689,7 +718,16 @@ public final class PromisesTest {
     b.is("an inner 10 comes back", b.built() + b.x.twice(), "k=a=x\\\\ny=ztrue");
     b.kinds(2, -1).file("a<p>b");
     b.tell(1, "\n");
+    b.tell(0, " c");
+    b.tell(1, "b");
+    b.is("as many, but not the same", b.x.twice() + " " + b.x.kept(1), "false true");
+    b.x.undo();
+    b.x.undo();
     b.is("a break alone goes", b.x.twice(), false).is("undo", b.x.undo(), 0).is("back again", b.x.twice(), true);
+    b.x.rule(0, 1);
+    b.kinds(1, -1).file(many("a,b,", 20) + "c");
+    b.tell(0, "1");
+    b.is("as many, as long, but not the same", b.x.twice() + " " + b.x.kept(0) + " " + b.x.kept(1), "false false true");
   }
 
   // Promises 30 and 31
@@ -720,6 +758,7 @@ public final class PromisesTest {
     b.x.rule(1, 1);
     b.tape("w").x.lock();
     b.tell(0, "d");
+    b.is("the longest is the first", b.x.count(13), 4);
     int[] due = {18, 1, 2, 4, 1, 15, 8, 0, 1, 1, 2, 5, 1, 4, 5};
     for (int i = 0; i < due.length; i++) {
       b.is("count(" + i + ")", b.x.count(i), i == 14 ? 3 : due[i]);
