@@ -857,15 +857,11 @@ public final class PieceFiles {
       return words;
     }
 
+    /** Also within longer rows of letters: a search is for letters side by side, not for WORDS. */
     boolean hasWord(int begin, int many, Row word) {
-      int end = begin + many;
-      int first = begin;
-      for (int i = begin; i <= end; i++) {
-        if (i == end || !isLetter(get(i))) {
-          if (i - first == word.size() && hasSmall(first, word)) {
-            return true;
-          }
-          first = i + 1;
+      for (int i = begin; i <= begin + many - word.size(); i++) {
+        if (hasSmall(i, word)) {
+          return true;
         }
       }
       return false;

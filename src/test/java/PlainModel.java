@@ -816,9 +816,7 @@ final class PlainModel {
     String word = takeWord();
     long bits = 0;
     for (int i = 0; i < pieces().size(); i++) {
-      for (String one : words(now(i))) {
-        bits |= one.toLowerCase().equals(word) ? 1L << i : 0L;
-      }
+      bits |= now(i).toLowerCase(java.util.Locale.ROOT).contains(word) ? 1L << i : 0L;
     }
     return bits;
   }

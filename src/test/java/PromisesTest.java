@@ -634,18 +634,24 @@ public final class PromisesTest {
   // Promise 26
   private static void found() {
     Bench b = new Bench("26 found").file("a=One two\nb=twofold\nc=1TWO2\nd=two");
-    b.is("two", b.tape("two").x.found(), 0b1101).is("fold", b.tape("fold").x.found(), 0).is("one", b.tape("one").x.found(), 1);
-    b.is("xwo", b.tape("xwo").x.found(), 0).is("twoo", b.tape("twoo").x.found(), 0).is("tw", b.tape("tw").x.found(), 0);
+    b.is("two", b.tape("two").x.found(), 0b1111).is("fold", b.tape("fold").x.found(), 2).is("one", b.tape("one").x.found(), 1);
+    b.is("xwo", b.tape("xwo").x.found(), 0).is("twoo", b.tape("twoo").x.found(), 0).is("tw", b.tape("tw").x.found(), 0b1111);
+    b.is("wof", b.tape("wof").x.found(), 2).is("not over a BLANK", b.tape("onetwo").x.found(), 0);
+    b.is("longer than most", b.tape("twofold").x.found(), 2).is("longer than all", b.tape("twofolds").x.found(), 0);
     b.tell(3, "aZ-zA@AZ[za{`");
     b.is("az", b.tape("az").x.found(), 8).is("za", b.tape("za").x.found(), 8).is("words", b.x.piece(3, 6), 4);
     b.x.free(3);
     b.tell(3, "x");
-    b.is("in NOW", b.tape("two").x.found(), 0b101).is("x", b.tape("x").x.found(), 8).is("the tape is used up", b.x.end(1), false);
+    b.is("in NOW", b.tape("two").x.found(), 0b111).is("x", b.tape("x").x.found(), 8).is("the tape is used up", b.x.end(1), false);
     for (String wrong : new String[] {"", "Two", "two ", "a1", "abcdefghi"}) {
       b.throwing("<" + wrong + ">", ARGUMENT, () -> b.tape(wrong).x.found()).is("the tape is used up", b.x.end(1), false);
     }
     b.kinds(1, -1).file(many("a,", 39) + "abcdefgh");
-    b.is("40 pieces", b.tape("abcdefgh").x.found(), 1L << 39).is("39", b.tape("a").x.found(), (1L << 39) - 1);
+    b.is("40 pieces", b.tape("abcdefgh").x.found(), 1L << 39).is("all", b.tape("a").x.found(), (1L << 40) - 1).is("h", b.tape("h").x.found(), 1L << 39);
+    b.kinds(0, -1).file("a=tw\nb=o").is("over a border", b.tape("two").x.found(), 0).is("at both ends", b.tape("o").x.found(), 2);
+    b.file("a=aab\nb=aaab").is("begun anew", b.tape("aaab").x.found(), 2).is("aab", b.tape("aab").x.found(), 3);
+    b.tell(0, "");
+    b.is("NOW is empty", b.tape("a").x.found(), 2);
   }
 
   // Promise 27
