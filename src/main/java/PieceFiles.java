@@ -1337,7 +1337,6 @@ public final class PieceFiles {
         fits = row.addPart(state.file, place, one.begin);
         place = one.end;
         one.builtBegin = row.size();
-        quoteWidth = 0;
         Row told = state.toldFor(i);
         if (told == null) {
           fits &= row.addPart(state.file, one.begin, one.end);
@@ -1345,7 +1344,7 @@ public final class PieceFiles {
           fits &= escape(told, one, state) && row.addPart(escaped, 0, escaped.size());
         }
         one.builtSize = row.size() - one.builtBegin;
-        one.quoteWidth = quoteWidth;
+        one.quoteWidth = told == null ? 0 : quoteWidth;
       }
       return fits && row.addPart(state.file, place, state.file.size());
     }

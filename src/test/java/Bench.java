@@ -108,6 +108,29 @@ final class Bench {
     return all.toString().trim();
   }
 
+  /** All that can be asked, but for what is remembered, the tape, fault() and why(). */
+  String all() {
+    StringBuilder all = new StringBuilder(fileText()).append(texts()).append('>').append(built());
+    for (int i = 0; i < 14; i++) {
+      all.append(' ').append(x.count(i));
+    }
+    for (int i = 0; i < x.count(3); i++) {
+      all.append('|').append(now(i));
+      for (int what = 0; what < 10; what++) {
+        all.append(' ').append(x.piece(i, what));
+      }
+    }
+    for (int k = 0; k < x.count(12); k++) {
+      all.append('|').append(pairText(k)).append('=').append(pairTold(k));
+    }
+    return all.append(' ').append(x.twice()).toString();
+  }
+
+  /** The tape has just so many bytes; looking leaves it as it is. */
+  Bench tapeHas(String what, int n) {
+    return is("the tape behind " + what, x.end(n + 1) + " " + x.end(n), "false true");
+  }
+
   Bench is(String what, Object got, Object due) {
     checks++;
     if (!String.valueOf(got).equals(String.valueOf(due))) {

@@ -179,20 +179,11 @@ public final class PromisesTest {
 
   /** The text is wrong at this place, and nothing of it stays. */
   private static void wrongAt(Bench b, String text, int place) {
-    String before = state(b);
+    String before = b.all();
+    int remembered = b.x.count(14);
     b.throwing("acts " + text, ARGUMENT, () -> b.acts(text)).is("fault of " + text, b.x.fault(), place);
-    b.is("state behind " + text, state(b), before).is("the tape is used up", b.x.end(1), false);
-  }
-
-  private static String state(Bench b) {
-    StringBuilder all = new StringBuilder(b.fileText()).append(b.texts()).append(b.built()).append(b.places());
-    for (int i = 0; i < 15; i++) {
-      all.append(' ').append(b.x.count(i));
-    }
-    for (int k = 0; k < b.x.count(12); k++) {
-      all.append('|').append(b.pairText(k)).append('=').append(b.pairTold(k));
-    }
-    return all.toString();
+    b.is("state behind " + text, b.all(), before).is("the tape is used up", b.x.end(1), false);
+    b.is("remembered behind " + text, b.x.count(14), remembered);
   }
 
   private static void actsWrong() {
@@ -411,13 +402,13 @@ public final class PromisesTest {
     Bench b = new Bench("12 to 15 BUILT of 600 bytes").file("a=b\nc=x\nd=" + many("y", 380) + "\ne=b");
     b.is("bytes", b.x.count(0), 394).is("120 more", b.tell(0, many("\\", 60)), 513).is("to 600", b.tell(1, many("z", 55) + many("\\", 1)), 569);
     b.is("600", b.tell(1, many("z", 32) + many("\\", 28)), 600);
-    String before = state(b);
-    b.throwing("601", STATE, () -> b.tell(1, many("z", 31) + many("\\", 29))).is("why", b.x.why(), 3).is("state", state(b), before);
-    b.throwing("spread", STATE, () -> b.x.spread(0)).is("why", b.x.why(), 3).is("state", state(b), before);
+    String before = b.all();
+    b.throwing("601", STATE, () -> b.tell(1, many("z", 31) + many("\\", 29))).is("why", b.x.why(), 3).is("state", b.all(), before);
+    b.throwing("spread", STATE, () -> b.x.spread(0)).is("why", b.x.why(), 3).is("state", b.all(), before);
     b.throwing("a text", ARGUMENT, () -> b.acts("free 1;swap 0 1;free 0;free 0"));
-    b.is("state", state(b), before).is("fault", b.x.fault(), 23).is("why", b.x.why(), 4);
+    b.is("state", b.all(), before).is("fault", b.x.fault(), 23).is("why", b.x.why(), 4);
     b.throwing("one of more than 60", STATE, () -> b.x.swap(0, 2)).is("why", b.x.why(), 8);
-    b.throwing("the other way", STATE, () -> b.x.swap(2, 0)).is("why", b.x.why(), 8).is("state", state(b), before);
+    b.throwing("the other way", STATE, () -> b.x.swap(2, 0)).is("why", b.x.why(), 8).is("state", b.all(), before);
     b.is("freed", b.x.free(1), 513).is("told for the long one", b.tell(2, ""), 133);
     b.is("no pair of it", b.x.count(12), 3).is("told for others", b.tell(1, many("\\", 60)), 252);
     b.is("for the last", b.tell(3, many("\\", 60)), 371).is("NOW is short then", b.x.swap(0, 2), 371);
@@ -742,16 +733,16 @@ public final class PromisesTest {
     b.tape("q").x.lock();
     b.x.rule(0, 1);
     b.tell(1, "told");
-    String before = state(b).replaceAll(" [0-9]+(\\||$)", " 0$1");
+    String before = b.all();
     b.x.image();
     b.acts("plain;kind 3;any;least 9;unlock");
     b.file("\"new\"");
     b.throwing("wrong", ARGUMENT, () -> b.acts("any;x"));
     b.throwing("free", STATE, () -> b.x.free(7));
-    b.tape("left").is("back", b.x.back(), true).is("all", state(b), before).is("remembered", b.x.count(14), 0);
+    b.tape("left").is("back", b.x.back(), true).is("all", b.all(), before).is("remembered", b.x.count(14), 0);
     b.is("the tape", b.x.end(5) + " " + b.x.end(4), "false true").is("fault", b.x.fault(), 4).is("why", b.x.why(), 1);
     b.tell(0, "w");
-    b.is("back again", b.x.back(), true).is("all", state(b), before).is("memory", b.x.count(12), 1);
+    b.is("back again", b.x.back(), true).is("all", b.all(), before).is("memory", b.x.count(12), 1);
     b.file("n=1");
     b.x.image();
     b.file("");
