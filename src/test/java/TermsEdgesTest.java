@@ -491,8 +491,8 @@ public final class TermsEdgesTest {
     for (int sign = 0; sign < 256; sign++) {
       if (sign != 10 && sign != 32) {
         boolean letter = sign >= 'a' && sign <= 'z' || sign >= 'A' && sign <= 'Z';
-        b.file("a=1" + (char) sign + "2");
-        b.is("with " + sign, b.x.rule(0, 1), letter ? 1 : 0).is("without", b.x.rule(0, 0), 1);
+        Bench c = new Bench("LETTERS and byte " + sign).file("a=1" + (char) sign + "2");
+        c.is("with", c.x.rule(0, 1), letter ? 1 : 0).is("without", c.x.rule(0, 0), 1);
       }
     }
     b.x.rule(0, 1);
