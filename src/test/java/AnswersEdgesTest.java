@@ -164,6 +164,8 @@ public final class AnswersEdgesTest {
     }
     b.tell(0, many("a ", 30));
     b.is("of 30", b.x.piece(0, 6), 30).is("no word over two PIECES", of("", 1, -1, "a,b").x.count(11), 2);
+    Bench c = of("the PIECE behind does not count", 1, -1, "1,a,1a,a1,b");
+    c.is("WORDS", row(c.x.piece(0, 6), c.x.piece(1, 6), c.x.piece(2, 6), c.x.piece(3, 6), c.x.piece(4, 6), c.x.count(11)), "0 1 1 1 1 4");
   }
 
   // "KNOWN: the number of the latest pair of THE MEMORY with the TEXT of a PIECE; none."

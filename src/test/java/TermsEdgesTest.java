@@ -61,6 +61,9 @@ public final class TermsEdgesTest {
   private static void due(int kind, int inner, String file, String texts, String places) {
     Bench b = cutBy(kind, inner, file);
     b.is("texts", b.texts(), texts).is("places", b.places(), places).is("BUILT", b.built(), file).is("twice", b.x.twice(), true);
+    for (int i = 0; i < b.x.count(3); i++) {
+      b.is("bytes of the TEXT", b.x.piece(i, 2), b.text(i).length());
+    }
   }
 
   // "THE FILE: at most 400 bytes 0 to 255 (none at first)"; promises 1 and 7
@@ -460,6 +463,11 @@ public final class TermsEdgesTest {
     due(0, 1, "a=\"\nb=y", "|y", "6-7");
     due(0, 2, "a=<x\nb=y", "|y", "7-8");
     due(0, 3, "a=\"x\nb=\"y", "|x|y", "3-4 8-9");
+    due(0, 3, "a=\"uvw\"\nb=\"z", "|uvw|z", "3-6 11-12");
+    due(0, 3, "a=\"x\" \"yy\"\nb=\"z", "|x|yy|z", "3-4 7-9 14-15");
+    due(0, 1, "a=\"x,\"\"\",y\nb=\"z\nc=w", "|x,\"|y|z|w", "3-7 9-10 14-15 18-19");
+    due(0, 2, "a=x<p>y\nb=<z\nc=w", "|x|y|w", "2-3 6-7 15-16");
+    due(0, 0, "a=x=y\\nz=w\nb=v=\nc=u=t", "|y|w|t", "4-5 9-10 20-21");
     due(0, 3, "a=\"x\"\n:=y", "|x", "3-4");
     due(0, 3, "a=\"x\" :\nb=\"y\"", "|y", "11-12");
     due(1, 3, "\"\"\"a\",b", "|a", "3-4");
@@ -544,6 +552,8 @@ public final class TermsEdgesTest {
     b.is("remembered", b.x.count(14), 4).is("unlock", b.x.unlock() + " " + b.x.count(9), "5 0");
     b.is("unlock without any", b.x.unlock() + " " + b.x.count(9), "5 0").is("lock", b.tape("e").x.lock(), 4);
     b.is("one that was", b.tape("a").x.lock(), 3).is("LOCKS", b.x.count(9), 2);
+    b.x.unlock();
+    b.is("the first one again", b.tape("e").x.lock() + " " + b.x.count(9), "4 1").is("the second one, too", b.tape("a").x.lock() + " " + b.x.count(9), "3 2");
     b.throwing("a begin of one is another one", ARGUMENT, () -> b.tape("").x.lock());
     b.is("longer", b.tape("ee").x.lock() + " " + b.x.count(9), "3 3");
   }
