@@ -8,12 +8,23 @@ import java.util.TreeSet;
 /** The class has the document's face and nothing else that others could see (LANGUAGE.md, rule 1). */
 public final class FaceTest {
   private static final String[] FACE = {
-    "int feed(int, int, int, int, int)", "boolean end(int)", "int acts()", "int fault()", "int why()", "int file()",
-    "int kind(int, boolean)", "int rule(int, int)", "int lock()", "int unlock()", "int tell(int)", "int free(int)",
-    "int spread(int)", "int swap(int, int)", "int wipe()", "int undo()", "int piece(int, int)",
-    "int octet(int, int, boolean)", "int origin(int, int)", "int key(int, int)", "int holder(int)",
-    "int at(int, boolean)", "int like(int, int)", "int would(int)", "long found()", "int memory(int, boolean, int)",
-    "boolean kept(int)", "boolean twice()", "void image()", "boolean back()", "int count(int)"};
+    "int feed(int, int, int, int, int)", "boolean end(int)", "int acts() throws IllegalArgumentException",
+    "int fault()", "int why()", "int file()", "int kind(int, boolean) throws IllegalArgumentException",
+    "int rule(int, int) throws NoSuchElementException, IllegalArgumentException",
+    "int lock() throws IllegalArgumentException, IllegalStateException", "int unlock()",
+    "int tell(int) throws IllegalArgumentException, IllegalStateException",
+    "int free(int) throws IllegalStateException", "int spread(int) throws IllegalStateException",
+    "int swap(int, int) throws IllegalStateException", "int wipe() throws IllegalStateException",
+    "int undo() throws IllegalStateException",
+    "int piece(int, int) throws IndexOutOfBoundsException, NoSuchElementException",
+    "int octet(int, int, boolean) throws IndexOutOfBoundsException",
+    "int origin(int, int) throws IndexOutOfBoundsException",
+    "int key(int, int) throws IndexOutOfBoundsException, NoSuchElementException", "int holder(int)",
+    "int at(int, boolean)", "int like(int, int) throws IndexOutOfBoundsException",
+    "int would(int) throws IndexOutOfBoundsException, IllegalArgumentException",
+    "long found() throws IllegalArgumentException", "int memory(int, boolean, int)",
+    "boolean kept(int) throws IndexOutOfBoundsException", "boolean twice()", "void image()", "boolean back()",
+    "int count(int)"};
 
   private static int wrong = 0;
 
@@ -30,7 +41,11 @@ public final class FaceTest {
         for (Class<?> type : method.getParameterTypes()) {
           text.append(text.charAt(text.length() - 1) == '(' ? "" : ", ").append(type);
         }
-        seen.add(text.append(")").toString());
+        text.append(")");
+        for (Class<?> type : method.getExceptionTypes()) {
+          text.append(text.charAt(text.length() - 1) == ')' ? " throws " : ", ").append(type.getSimpleName());
+        }
+        seen.add(text.toString());
         check(Modifier.isPublic(method.getModifiers()), method + " is not public");
       } else {
         check(!names.contains(method.getName()), method + " bears the name of a public method");
