@@ -5,7 +5,7 @@ import java.util.regex.Pattern;
 
 /**
  * Every short row of the signs that matter to a kind and an inner kind, cut, told and built: held against the
- * document's kinds told by patterns, which share nothing with PieceFiles nor with PlainModel.
+ * document's kinds told by patterns, which share no code with PieceFiles nor with PlainModel.
  */
 public final class ShortRowsTest {
   private static final Pattern[] CUTS = {
